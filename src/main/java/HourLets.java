@@ -1080,7 +1080,7 @@ public final class HourLets {
     }
 
     /** A text and the thing in it that comes next; what it expects answers false where it is wrong. */
-    private static class Text {
+    private abstract static class Text {
         private static final int END = 0;
         private static final int WORD = 1;
         private static final int NUMBER = 2;
