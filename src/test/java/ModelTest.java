@@ -483,7 +483,7 @@ public final class ModelTest {
                 break;
             case 30:
                 int many = number(1, 20);
-                both("cheap", tenant(), many, oneIn(3) ? NONE : number(0, Math.max(0, many - 1)));
+                both("cheap", tenant(), many, oneIn(3) ? NONE : number(0, Math.max(1, Math.min(many, 20)) - 1));
                 break;
             case 31:
                 if (oneIn(6)) {

@@ -144,6 +144,30 @@ public final class PromiseTest {
         fault -> 22
         town "tenant 1 likes 1 too 2" -> IllegalArgumentException
         fault -> 17
+        town "tenant 1 likes 24 to 24" -> IllegalArgumentException
+        fault -> 15
+        town "tenant 1 likes 23 to 24" -> IllegalArgumentException
+        fault -> 21
+        town "let 0 24 to 24 0" -> IllegalArgumentException
+        fault -> 6
+        town "let 7 0 to 0 0" -> IllegalArgumentException
+        fault -> 4
+        town "want 0 1 from 24 to 24" -> IllegalArgumentException
+        fault -> 14
+        town "want 0 21 from 0 to 0" -> IllegalArgumentException
+        fault -> 7
+        town "want 0 0 from 0 to 0" -> IllegalArgumentException
+        fault -> 7
+        town "want 0 1 from 3 to 2" -> IllegalArgumentException
+        fault -> 19
+        town "want 2 1 from 3 to 4" -> IllegalArgumentException
+        fault -> 5
+        town "chance 101" -> IllegalArgumentException
+        fault -> 7
+        town "goods 0 0 100" -> IllegalArgumentException
+        fault -> 10
+        town "goods 7 0 10" -> IllegalArgumentException
+        fault -> 6
         town "child of 2" -> IllegalArgumentException
         fault -> 9
         town "child of 9" -> IllegalArgumentException
@@ -954,6 +978,15 @@ public final class PromiseTest {
         heard 0 168 -> 3
         heard 0 332 -> 3
         heard 0 333 -> 7
+        # at the last tick, and one behind it
+        new
+        town "tenant 9 likes 0 to 0;tenant 9 likes 0 to 0;tenant 9 likes 0 to 0;tenant 9 likes 0 to 0;tenant 9 likes 0 to 0;let 0 5 to 5 0;let 0 6 to 6 1;let 0 2 to 2 1;let 0 3 to 3 2;let 6 23 to 23 2;let 0 0 to 0 3;let 0 1 to 1 4" -> 1
+        soonest 0 1 -> 6
+        soonest 0 2 -> 171
+        soonest 0 3 -> 336
+        soonest 0 4 -> -1
+        heard 0 335 -> 7
+        heard 0 336 -> 15
         """;
 
     private static final String ROOMS_FOR = """
