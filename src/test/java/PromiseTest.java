@@ -231,6 +231,14 @@ public final class PromiseTest {
         town "want 0 20 from 0 to 23;want 9 1 from 5 to 5;want 0 1 from 0 to 0;want 0 1 from 0 to 0;want 0 1 from 0 to 0;want 0 1 from 0 to 0;want 0 1 from 0 to 0" -> 4
         town "want 0 1 from 0 to 0" -> 5
         count 11 -> 8
+        fitted false -> 27
+        fitted true -> 1
+        given 0 -> 0
+        given 19 -> 0
+        given 20 -> -1
+        given 24 -> 2
+        given 29 -> 1
+        given 144 -> 7
         town "chance 4;want 1 1 from 0 to 0" -> IllegalArgumentException
         fault -> 9
         town "" -> 6
@@ -834,6 +842,16 @@ public final class PromiseTest {
         given 4 -> -1
         given 147 -> 0
         given 148 -> 1
+        # what was wanted in vain before counts for nothing afterwards
+        new
+        town "tenant 9 likes 0 to 0;tenant 8 likes 0 to 0;want 0 5 from 2 to 3;want 1 10 from 3 to 4" -> 1
+        law "bar if coins<9" -> 1
+        fitted false -> 5
+        law "" -> 0
+        fitted false -> 15
+        given 2 -> 0
+        given 3 -> 0
+        given 4 -> 1
         """;
 
     private static final String ENVIES = """
