@@ -86,7 +86,7 @@ public final class PromiseTest {
         town "tenant 0 likes 0 to 0;let 6 23 to 23 0" -> 1
         feed -1493172224 0 0 0 0 -> 20
         end 1 -> true
-        thieves -> IllegalArgumentException
+        thieves -> 1
         feed -1493172224 0 0 0 0 -> 20
         end 0 -> true
         feed 0 0 0 0 0 -> 20
