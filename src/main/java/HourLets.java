@@ -1122,6 +1122,10 @@ public final class HourLets {
             return number;
         }
 
+        boolean hasDigits(int most) {
+            return end - begin <= most;
+        }
+
         void step() {
             begin = end;
             while (begin < length && bytes[begin] == ' ') {
@@ -1191,7 +1195,7 @@ public final class HourLets {
 
         /** Whether a number within these bounds stands there; the caller reads it ahead of the next step. */
         boolean isNumber(int digits, int least, int most) {
-            if (kind == NUMBER && end - begin <= digits && number >= least && number <= most) {
+            if (kind == NUMBER && hasDigits(digits) && number >= least && number <= most) {
                 return true;
             }
             return fail();
@@ -1613,7 +1617,7 @@ public final class HourLets {
 
         private int partThere() {
             if (atNumber()) {
-                return isNumber(DIGITS, 0, MOST_NUMBER) ? readNumber() : NO_PART;
+                return hasDigits(DIGITS) ? readNumber() : NO_PART;
             }
             if (atWord("day")) {
                 return Law.DAY;

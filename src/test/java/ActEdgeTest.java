@@ -87,6 +87,18 @@ public final class ActEdgeTest {
         tenant 0 6 -> 10
         tenant 3 6 -> 0
         tenant 3 4 -> 0
+        # in the first and in the last ROOM, too
+        take 1 0 -> 5
+        take 1 167 -> 5
+        town "goods 0 0 50;goods 6 23 30" -> 3
+        tenant 1 4 -> 4
+        tenant 1 5 -> 4
+        tenant 1 6 -> 20
+        tenant 1 7 -> 85
+        count 10 -> 299
+        law "rent 1;rent 10 if day<1 and hour<1;rent 20 if day>5" -> 3
+        tenant 1 6 -> 34
+        tenant 0 6 -> 2
         # one who has none
         leave 36 -> 2
         leave 37 -> 2
@@ -773,6 +785,14 @@ public final class ActEdgeTest {
         town "chance 0" -> 3
         ticks 336 -> 0
         seed 1 -> -1770082073
+        # ten TENANTS, of whom the last one alone has coins: the twentieth DRAW is its ROOM
+        new
+        town "tenant 0 likes 0 to 0;tenant 0 likes 0 to 0;tenant 0 likes 0 to 0;tenant 0 likes 0 to 0;tenant 0 likes 0 to 0;tenant 0 likes 0 to 0;tenant 0 likes 0 to 0;tenant 0 likes 0 to 0;tenant 0 likes 0 to 0;tenant 11 likes 0 to 0;let 0 0 to 0 9;chance 100" -> 1
+        ticks 168 -> 10
+        log 0 1 -> 30
+        log 0 2 -> 9
+        count 13 -> 1
+        tenant 9 0 -> 1
         """;
 
     private static final String DRAWS_REFUSED = """

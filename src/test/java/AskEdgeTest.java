@@ -432,6 +432,33 @@ public final class AskEdgeTest {
         fitted false -> 0
         fitted true -> 0
         given 0 -> -1
+        new
+        town "tenant 9 likes 0 to 0;tenant 8 likes 0 to 0;want 0 5 from 2 to 3;want 1 10 from 3 to 4" -> 1
+        law "bar if coins<9" -> 1
+        fitted false -> 5
+        fitted true -> 0
+        given 2 -> 0
+        given 4 -> -1
+        law "bar if coins>8" -> 1
+        fitted false -> 10
+        given 2 -> -1
+        given 3 -> 1
+        law "" -> 0
+        fitted false -> 15
+        fitted true -> 1
+        given 2 -> 0
+        given 3 -> 0
+        given 4 -> 1
+        # what was wanted in vain before counts for nothing afterwards
+        new
+        town "tenant 9 likes 0 to 0;tenant 8 likes 0 to 0;want 0 7 from 8 to 9;want 1 7 from 8 to 8" -> 1
+        law "bar if coins>8" -> 1
+        fitted false -> 7
+        law "" -> 0
+        fitted false -> 14
+        fitted true -> 1
+        given 8 -> 1
+        given 9 -> 0
         """;
 
     private static final String FITTED_ALL = """
@@ -724,6 +751,26 @@ public final class AskEdgeTest {
         # nothing is worth anything
         law "" -> 0
         ring 0 -1 -> -1
+        # one who points into a ring, from which one does not come back
+        new
+        town "tenant 9 likes 4 to 4;tenant 9 likes 0 to 0;tenant 9 likes 4 to 4;let 0 0 to 0 0;let 0 4 to 4 1;let 0 8 to 8 2" -> 1
+        ring 0 -1 -> 2
+        ring 1 -1 -> 2
+        ring 2 -1 -> -1
+        ring 2 0 -> -1
+        turn 2 -> IllegalStateException
+        # one's own in the first ROOM, and in the last one, are as good
+        new
+        town "tenant 9 likes 0 to 4;tenant 9 likes 5 to 8;let 0 0 to 0 0;let 0 4 to 4 1;let 0 8 to 8 0" -> 1
+        ring 0 -1 -> -1
+        leave 0 -> 0
+        ring 0 -1 -> 2
+        take 0 167 -> 5
+        ring 0 -1 -> 2
+        law "value 1 if hour>22;value 1 if hour<5 and rooms>1;value 1 if hour>4 and hour<9 and rooms<2" -> 3
+        ring 0 -1 -> -1
+        leave 167 -> 0
+        ring 0 -1 -> -1
         """;
 
     private static String ringOfTen() {
@@ -759,12 +806,15 @@ public final class AskEdgeTest {
             turn 9 -> IllegalStateException
             undo -> true
             ring 3 -1 -> 10
-            # nine of them, and one who points into their ring
+            # nobody has HOUR 9: 8 points to nobody, and 9 to ROOM 0
             leave 9 -> 9
             take 9 20 -> 5
             ring 9 -1 -> -1
             ring 0 -1 -> -1
-            take 8 24 -> 5
+            ring 8 0 -> -1
+            # 8 has it, and points to nobody
+            take 8 9 -> 5
+            ring 7 -1 -> -1
             ring 8 -1 -> -1
             """;
     }

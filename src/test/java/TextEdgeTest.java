@@ -41,6 +41,7 @@ public final class TextEdgeTest {
         script.play("THE LAW: 6 deep", DEEP);
         script.play("THE LAW: in place of the one before", LAW_REPLACED);
         script.play("THE LAW: what holds", HOLDS);
+        script.play("THE LAW: each of 12 LINES by its own", twelveLines());
         townNumbers(script);
         lawNumbers(script);
         eachThingOfATown(script);
@@ -136,6 +137,13 @@ public final class TextEdgeTest {
         feed -1509949440 0 0 0 0 -> 21
         end 2 -> true
         thieves -> 1
+        # what was fed and cut off is not there any more: 0 and 255 255 255; 0 97 and 255 255
+        feed 16777215 -1 -1 -1 -1 -> 20
+        end 1 -> true
+        thieves -> 3
+        feed 6422527 -1 -1 -1 -1 -> 20
+        end 2 -> true
+        seen -> 0
         # 255 is no room, wherever it stands
         feed 255 0 0 0 0 -> 20
         end 4 -> true
@@ -927,6 +935,14 @@ public final class TextEdgeTest {
         fault -> 24
         law "bar if ((((((likes)))))" -> IllegalArgumentException
         fault -> 23
+        law "bar if likes)" -> IllegalArgumentException
+        fault -> 12
+        law "bar if (likes))" -> IllegalArgumentException
+        fault -> 14
+        law "bar if (likes" -> IllegalArgumentException
+        fault -> 13
+        law "bar if (likes))and(likes" -> IllegalArgumentException
+        fault -> 14
         # what they tell at six deep
         town "tenant 5 likes 3 to 3" -> 1
         law "bar if not not not not not not likes;rent 1 if not not not not not likes" -> 2
@@ -1045,6 +1061,15 @@ public final class TextEdgeTest {
         rule 0 24 1 -> 11
         rule 0 48 1 -> 111
         rule 0 0 2 -> 1998
+        # likes and beside, as both, one or none hold: 6 is liked, 1 and 166 are beside
+        law "value 1 if likes and beside;value 2 if beside and likes;value 4 if likes or beside;value 8 if beside or likes;value 16 if not beside;value 32 if not not beside;value 64 if beside and hour<2;value 128 if hour>5 and beside" -> 8
+        rule 0 6 2 -> 28
+        rule 0 1 2 -> 108
+        rule 0 166 2 -> 172
+        rule 0 9 2 -> 16
+        take 0 5 -> 0
+        rule 0 6 2 -> 175
+        leave 5 -> 0
         # or of and of not
         law "value 1 if day<1 or day>5 and hour<1;value 2 if day>5 and hour<1 or day<1;value 4 if not day<1 and hour<1;value 8 if not(day<1 or hour<1)" -> 4
         rule 0 1 2 -> 3
@@ -1053,6 +1078,18 @@ public final class TextEdgeTest {
         rule 0 24 2 -> 4
         rule 0 25 2 -> 8
         """;
+
+    private static String twelveLines() {
+        StringBuilder law = new StringBuilder();
+        StringBuilder looks = new StringBuilder();
+        for (int line = 0; line < 12; line++) {
+            law.append(line == 0 ? "" : ";").append("value ").append(line + 1).append(" if hour<").append(line + 1);
+            int sum = 78 - line * (line + 1) / 2;
+            looks.append("rule 0 ").append(line).append(" 2 -> ").append(sum).append('\n');
+        }
+        return "town \"tenant 5 likes 0 to 0\" -> 1\nlaw \"" + law + "\" -> 12\n" + looks + "rule 0 12 2 -> 0\n"
+                + "image -> null\nlaw \"\" -> 0\nback -> true\n" + looks + "rule 0 12 2 -> 0\n";
+    }
 
     /** A number at its bounds, one below and one above, and of as many digits as it may have, and one more. */
     private static void numberEdges(Script script, String call, String ahead, String behind, int[] bounds) {
@@ -1139,14 +1176,21 @@ public final class TextEdgeTest {
                 expectText(text, call, before, before.length(), 0);
                 expectText(text, call, before + "   ", before.length() + 3, 0);
             }
+            // a ; too early is the wrong byte, whatever comes behind it
+            int early = complete.charAt(i) == '-' || before.isEmpty() ? 0 : 1;
+            expectText(text, call, before + ";x", before.length() + early, 0);
             for (String sign : new String[] {"?", "{0}", "{255}", "{128}", "}", "*", "\\", "_"}) {
                 expectText(text, call, before + sign + rest, before.length(), 0);
             }
             if (i < things.length && things[i].matches("[a-z]+")) {
                 expectText(text, call, before + "x" + rest, before.length(), 0);
-                expectText(text, call, before + things[i].substring(1) + "z", before.length(), 0);
                 expectText(text, call, before + things[i] + "x", before.length(), 0);
                 expectText(text, call, before + "X" + rest, before.length(), 0);
+                text.append("new\n");
+                for (int k = 0; k < things[i].length(); k++) {
+                    String other = things[i].substring(0, k) + "q" + things[i].substring(k + 1);
+                    expectText(text, call, before + other + rest.substring(things[i].length()), before.length(), 0);
+                }
             }
             before += i < things.length ? things[i] + " " : "";
         }
