@@ -216,6 +216,9 @@ public final class ActEdgeTest {
         take 0 -1 -> IndexOutOfBoundsException
         take 0 168 -> IndexOutOfBoundsException
         take -2147483648 2147483647 -> IndexOutOfBoundsException
+        # there is no such TENANT or ROOM ahead of what is refused
+        take 4 9 -> IndexOutOfBoundsException
+        take 3 168 -> IndexOutOfBoundsException
         # it has an OWNER: oneself, another one, SUBLET to the one
         take 1 9 -> IllegalStateException
         take 0 9 -> IllegalStateException
