@@ -6,7 +6,10 @@ import java.nio.file.Files;
 import java.nio.file.Path;
 import java.util.ArrayList;
 import java.util.Arrays;
+import java.util.Collections;
+import java.util.IdentityHashMap;
 import java.util.List;
+import java.util.Set;
 import java.util.TreeSet;
 
 /** The face is the document's and no more; the file keeps to those rules of LANGUAGE.md that can be looked at here. */
@@ -23,12 +26,29 @@ public final class FaceTest {
         "changed int int int int", "log int int int", "led int int int", "seed int int", "undo boolean",
         "image void", "back boolean", "count int int"};
 
+    private static final String INDEX = "IndexOutOfBoundsException";
+    private static final String ARGUMENT = "IllegalArgumentException";
+    private static final String STATE = "IllegalStateException";
+    private static final String ELEMENT = "NoSuchElementException";
+    // What the face says that the calls throw; all others throw nothing.
+    private static final String[][] THROWS = {
+        {"town", ARGUMENT, "UnsupportedOperationException"}, {"law", ARGUMENT},
+        {"tenant", INDEX, ELEMENT}, {"room", INDEX, ELEMENT}, {"rule", INDEX, ELEMENT}, {"roomOf", INDEX},
+        {"take", INDEX, STATE}, {"leave", INDEX, STATE}, {"sublet", INDEX, ARGUMENT, STATE}, {"ends", INDEX, STATE},
+        {"evict", INDEX, STATE}, {"carry", INDEX, ARGUMENT, STATE}, {"swap", INDEX, ARGUMENT, STATE},
+        {"ticks", ARGUMENT}, {"neighbours", INDEX}, {"run", INDEX}, {"wedding", INDEX, ARGUMENT},
+        {"cheap", INDEX, ARGUMENT}, {"given", INDEX}, {"envies", INDEX}, {"fair", ARGUMENT},
+        {"ring", INDEX, ARGUMENT}, {"turn", INDEX, STATE}, {"soonest", INDEX}, {"heard", INDEX, ARGUMENT},
+        {"roomsFor", INDEX, ARGUMENT}, {"thieves", ARGUMENT}, {"seen", ARGUMENT}, {"changed", INDEX, ARGUMENT},
+        {"log", ELEMENT}, {"led", INDEX, ARGUMENT}};
+
     private static int wrong = 0;
 
     public static void main(String[] args) throws Exception {
         faceIsTheDocuments();
         nothingElseIsSeen();
         sourceKeepsToTheRules();
+        oneObjectIsSmall();
         System.out.println(wrong == 0 ? "all as due" : wrong + " not as due");
         if (wrong != 0) {
             System.exit(1);
@@ -50,12 +70,30 @@ public final class FaceTest {
         return text.toString();
     }
 
+    private static List<String> thrownBy(Method method) {
+        List<String> names = new ArrayList<>();
+        for (Class<?> type : method.getExceptionTypes()) {
+            names.add(type.getSimpleName());
+        }
+        return names;
+    }
+
+    private static List<String> dueBy(String name) {
+        for (String[] line : THROWS) {
+            if (line[0].equals(name)) {
+                return Arrays.asList(line).subList(1, line.length);
+            }
+        }
+        return List.of();
+    }
+
     private static void faceIsTheDocuments() throws Exception {
         TreeSet<String> have = new TreeSet<>();
         for (Method method : HourLets.class.getDeclaredMethods()) {
             if (Modifier.isPublic(method.getModifiers())) {
                 have.add(signature(method));
                 expect(!Modifier.isStatic(method.getModifiers()), "static: " + method);
+                expect(thrownBy(method).equals(dueBy(method.getName())), "throws: " + method);
             }
         }
         TreeSet<String> due = new TreeSet<>(Arrays.asList(FACE));
@@ -122,6 +160,7 @@ public final class FaceTest {
                 expect(listed, "not to be imported: " + line);
             }
         }
+        rowsAreMadeOnce(source);
         int begin = 0;
         String[] lines = source.split("\n");
         for (int i = 0; i < lines.length; i++) {
@@ -136,6 +175,48 @@ public final class FaceTest {
         }
         for (int i = 0; i < source.length(); i++) {
             expect(source.charAt(i) < 128, "a sign above 127 at " + i);
+        }
+    }
+
+    /** Even a run whose every call makes an object has room for all of them. */
+    private static void oneObjectIsSmall() throws IllegalAccessException {
+        Set<Object> met = Collections.newSetFromMap(new IdentityHashMap<>());
+        int cells = cellsOf(new HourLets(), met);
+        expect(met.size() * 512 < 600_000, "objects: " + met.size());
+        expect(cells * 512 < 7_300_000, "fields and elements: " + cells);
+    }
+
+    private static int cellsOf(Object object, Set<Object> met) throws IllegalAccessException {
+        if (object == null || !met.add(object)) {
+            return 0;
+        }
+        if (object instanceof int[] row) {
+            return row.length;
+        }
+        int cells = 0;
+        if (object instanceof Object[] row) {
+            for (Object one : row) {
+                cells += 1 + cellsOf(one, met);
+            }
+            return cells;
+        }
+        for (Class<?> kind = object.getClass(); kind != Object.class; kind = kind.getSuperclass()) {
+            for (Field field : kind.getDeclaredFields()) {
+                if (!Modifier.isStatic(field.getModifiers())) {
+                    field.setAccessible(true);
+                    cells += 1 + (field.getType().isPrimitive() ? 0 : cellsOf(field.get(object), met));
+                }
+            }
+        }
+        return cells;
+    }
+
+    /** All calls of a run live in one room, so an object is made with another object alone, or as an exception. */
+    private static void rowsAreMadeOnce(String source) {
+        for (String line : source.split("\n")) {
+            boolean once = line.matches(" +private final .* = new .*;") || line.contains("throw new ")
+                    || line.contains("past[i] = new Town();");
+            expect(once || !line.matches(".*\\bnew\\b.*[(\\[].*"), "made in a call: " + line.trim());
         }
     }
 }
