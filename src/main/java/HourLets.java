@@ -1467,7 +1467,7 @@ public final class HourLets {
             law.clearLines();
             boolean more = !atEnd();
             for (int line = 0; line < Law.LINES && more; line++) {
-                more = readLine() && !atEnd() && passSign(';');
+                more = readHead() && readCondition() && !atEnd() && passSign(';');
             }
             if (more) {
                 fail();
@@ -1475,28 +1475,30 @@ public final class HourLets {
             return firstWrong();
         }
 
-        private boolean readLine() {
+        /** What a line says, ahead of its condition. */
+        private boolean readHead() {
             if (atWord("bar")) {
                 step();
                 law.addLine(Law.BAR, 0);
-            } else if (atWord("rent") || atWord("value")) {
-                int kind = atWord("rent") ? Law.RENT : Law.VALUE;
-                step();
-                if (!isNumber(DIGITS, 0, MOST_NUMBER)) {
-                    return false;
-                }
-                law.addLine(kind, stepOver());
-            } else {
+                return true;
+            }
+            if (!atWord("rent") && !atWord("value")) {
                 return fail();
             }
+            int kind = atWord("rent") ? Law.RENT : Law.VALUE;
+            step();
+            if (!isNumber(DIGITS, 0, MOST_NUMBER)) {
+                return false;
+            }
+            law.addLine(kind, stepOver());
+            return true;
+        }
+
+        private boolean readCondition() {
             if (!atWord("if")) {
                 return true;
             }
             step();
-            return readCondition();
-        }
-
-        private boolean readCondition() {
             waiting = 0;
             opened = 0;
             depth = 0;
